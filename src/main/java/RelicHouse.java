@@ -34,11 +34,11 @@ public final class RelicHouse {
     private static final int NO_MORE_WORKS = -20;
 
     private final Tape tape = new Tape();
-    private final Convent now = new Convent();
+    private final Convent now = new Convent(new House(), new Law());
     private final Script script = new Script();
     private final Suspects suspects = new Suspects();
     private final Pairing pairing = new Pairing();
-    private final Year trialYear = new Year();
+    private final Year trialYear = new Year(now.house, now.law);
     private final Shelf works = new Shelf(MOST_WORKS, Convent.WIDTH);
     private final Shelf images = new Shelf(MOST_IMAGES, Convent.WIDTH);
     private final Shelf[] imagedWorks = new Shelf[MOST_IMAGES];
@@ -77,7 +77,6 @@ public final class RelicHouse {
         House old = now.house;
         now.house = spareHouse;
         spareHouse = old;
-        now.law.setPlain();
         now.begin();
         sight.clear();
         works.height = 0;
@@ -992,7 +991,7 @@ public final class RelicHouse {
                         readPair(tape, open + 1);
                         add(LEAST + which - WORD_LEAST);
                     }
-                } else {
+                } else if (which != NONE) {
                     add(AN_INPUT + which);
                 }
             }
@@ -1065,11 +1064,14 @@ public final class RelicHouse {
         private static final int A_DAY = 5;
         private static final int AGAIN = 6;
 
-        private final int[] verbs = new int[MOST_WORK_BYTES];
-        private final int[] firsts = new int[MOST_WORK_BYTES];
-        private final int[] seconds = new int[MOST_WORK_BYTES];
+        /** The shortest step has four bytes: day and its end. */
+        private static final int MOST_VERBS = MOST_WORK_BYTES / 4;
+
+        private final int[] verbs = new int[MOST_VERBS];
+        private final int[] firsts = new int[MOST_VERBS];
+        private final int[] seconds = new int[MOST_VERBS];
         /** Of an again: the step behind its last one. */
-        private final int[] ends = new int[MOST_WORK_BYTES];
+        private final int[] ends = new int[MOST_VERBS];
         private int length;
         private int begun;
         private int done;
@@ -1169,9 +1171,7 @@ public final class RelicHouse {
         private int lines;
 
         private Sight() {
-            for (int r = 0; r < power.length; r++) {
-                power[r] = NONE;
-            }
+            clear();
         }
 
         private void clear() {
@@ -1216,11 +1216,12 @@ public final class RelicHouse {
 
         private final int[] cells = new int[WIDTH];
         private final int[] inputs = new int[Law.INPUTS];
-        private House house = new House();
-        private Law law = new Law();
+        private House house;
+        private Law law;
 
-        private Convent() {
-            law.setPlain();
+        private Convent(House house, Law law) {
+            this.house = house;
+            this.law = law;
             begin();
         }
 
@@ -1229,6 +1230,7 @@ public final class RelicHouse {
                 cells[i] = i < CURERS ? 0 : NONE;
             }
             cells[LIVING] = (1 << house.sisters) - 1;
+            law.setPlain();
         }
 
         private void copyOf(Convent other) {
@@ -1551,10 +1553,14 @@ public final class RelicHouse {
 
     /** Days by a seed, which go by in a convent of their own. */
     private static final class Year {
-        private final Convent trial = new Convent();
+        private final Convent trial;
         private int seed;
         private int cured;
         private int lapses;
+
+        private Year(House house, Law law) {
+            trial = new Convent(house, law);
+        }
 
         private void pass(Convent from, int firstSeed, int days) {
             trial.copyOf(from);

@@ -1,0 +1,102 @@
+import java.io.IOException;
+import java.lang.reflect.Constructor;
+import java.lang.reflect.Field;
+import java.lang.reflect.Method;
+import java.lang.reflect.Modifier;
+import java.nio.file.Files;
+import java.nio.file.Path;
+import java.util.Arrays;
+import java.util.Set;
+import java.util.TreeSet;
+
+/** The public face as the document has it, and those rules of LANGUAGE.md that can be seen from outside. */
+final class FaceTest {
+    private static final String FACE = "int feed 5;int house 1;int law 1;int work 1;int seen 1;int fault 0;int undo 0;"
+            + "int told 1;int sister 2;int relic 2;int pilgrim 2;int would 8;boolean can 2;int when 2;int ahead 3;"
+            + "int match 0;int matched 1;int lapsed 1;int ask 1;long best 3;long without 3;int ring 1;int follows 2;"
+            + "int tempted 3;int alms 3;int strongest 1;int bare 0;int hopeless 1;int eldest 1;int idle 0;int needs 1;"
+            + "int strength 1;int weakest 1;int year 3;int span 5;int image 0;int restore 0;int status 1;int count 1";
+
+    private FaceTest() {
+    }
+
+    public static void main(String[] args) throws IOException {
+        Set<String> names = face();
+        methodsAndFields(names);
+        insideClasses(names);
+        source();
+        Checks.end("FaceTest");
+    }
+
+    private static Set<String> face() {
+        Set<String> names = new TreeSet<>();
+        Set<String> due = new TreeSet<>(Arrays.asList(FACE.split(";")));
+        Set<String> got = new TreeSet<>();
+        for (Method m : RelicHouse.class.getDeclaredMethods()) {
+            if (Modifier.isPublic(m.getModifiers())) {
+                names.add(m.getName());
+                got.add(m.getReturnType() + " " + m.getName() + " " + m.getParameterCount());
+                for (Class<?> p : m.getParameterTypes()) {
+                    Checks.due("parameters of " + m.getName() + " are int", p == int.class, true);
+                }
+            }
+        }
+        Checks.due("the face is the document's: " + got, got.equals(due), true);
+        Checks.due("final", Modifier.isFinal(RelicHouse.class.getModifiers()), true);
+        return names;
+    }
+
+    private static boolean isHidden(int modifiers) {
+        return Modifier.isPrivate(modifiers);
+    }
+
+    private static void methodsAndFields(Set<String> names) {
+        for (Method m : RelicHouse.class.getDeclaredMethods()) {
+            boolean isFace = Modifier.isPublic(m.getModifiers());
+            Checks.due(m.getName() + " is public or private", isFace || isHidden(m.getModifiers()), true);
+            Checks.due("private " + m.getName() + " has a name of its own", !isFace && names.contains(m.getName()), false);
+        }
+        for (Field f : RelicHouse.class.getDeclaredFields()) {
+            Checks.due(f.getName() + " is hidden", isHidden(f.getModifiers()) || f.getName().equals("NONE"), true);
+        }
+        for (Constructor<?> c : RelicHouse.class.getDeclaredConstructors()) {
+            Checks.due("the constructor", c.getParameterCount(), 0);
+        }
+    }
+
+    private static void insideClasses(Set<String> names) {
+        Class<?>[] inside = RelicHouse.class.getDeclaredClasses();
+        Checks.due("some twelve classes at most", inside.length <= 12, true);
+        for (Class<?> c : inside) {
+            Checks.due(c.getSimpleName() + " is static", Modifier.isStatic(c.getModifiers()), true);
+            int fields = 0;
+            for (Field f : c.getDeclaredFields()) {
+                fields += Modifier.isStatic(f.getModifiers()) ? 0 : 1;
+                Checks.due(f.getName() + ": static is final",
+                        Modifier.isStatic(f.getModifiers()) && !Modifier.isFinal(f.getModifiers()), false);
+            }
+            Checks.due("some twenty fields in " + c.getSimpleName(), fields <= 20, true);
+            for (Method m : c.getDeclaredMethods()) {
+                Checks.due(c.getSimpleName() + "." + m.getName() + " has a name of its own", names.contains(m.getName()), false);
+                Checks.due(m.getName() + " has seven parameters at most", m.getParameterCount() <= 7, true);
+            }
+        }
+    }
+
+    private static void source() throws IOException {
+        String text = Files.readString(Path.of("src/main/java/RelicHouse.java"));
+        String code = text.replaceAll("(?s)/\\*.*?\\*/", "").replaceAll("//[^\n]*", "");
+        for (String banned : new String[] {"try", "catch", "finally", "synchronized", "assert", "package", "double",
+            "float", "instanceof", "hashCode", "toString", "Random", "Thread", "File", "var", "Object"}) {
+            Checks.due("no " + banned, code.matches("(?s).*\\b" + banned + "\\b.*"), false);
+        }
+        Checks.due("no lambda", code.contains("->"), false);
+        Checks.due("no method reference", code.contains("::"), false);
+        Checks.due("one import", code.split("\nimport ", -1).length + (code.startsWith("import ") ? 1 : 0), 2);
+        for (int i = 0; i < text.length(); i++) {
+            if (text.charAt(i) > 127) {
+                Checks.due("a sign above 127 at " + i, true, false);
+            }
+        }
+    }
+}
