@@ -1473,15 +1473,10 @@ public final class RelicHouse {
             return NONE;
         }
 
+        /** Who may not be outside is in every set, and the first set has nobody else. */
         private int sureOnes() {
             int first = firstSet();
-            int sure = first == NONE ? 0 : first;
-            for (int set = 0; set <= all; set++) {
-                if (isPossible(set)) {
-                    sure &= set;
-                }
-            }
-            return sure;
+            return first == NONE ? 0 : first;
         }
 
         private int leftAtWorst(Convent convent, int relic) {

@@ -93,7 +93,14 @@ final class PromiseAsksTest {
         Checks.due("not KEPT, though she can lapse", x.ahead(1, 3, 1), 0);
         Checks.due("nothing stays changed", x.sister(0, 1), 0);
         Checks.law(x, "day");
+        Checks.due("the DAY goes by", x.ahead(0, 7, 0), 12);
         Checks.due("the DAY goes by, too", x.ahead(0, 7, 1), 12);
+        Checks.law(x, "lapses * 10 + days");
+        Checks.work(x, "give 2;give 3;again 9[day;];lapse 1;lapse 1;lapse 2;");
+        Checks.due("her own lapses", x.ahead(2, 1, 0), 23);
+        Checks.due("her own lapses and one more", x.ahead(2, 1, 1), 32);
+        Checks.due("her own lapses", x.ahead(3, 0, 0), 14);
+        Checks.due("her own lapses and one more", x.ahead(3, 0, 1), 22);
         Checks.noArgument("n -1", () -> x.ahead(0, -1, 0));
         Checks.noArgument("n 100", () -> x.ahead(0, 100, 0));
         Checks.noArgument("what 2", () -> x.ahead(0, 0, 2));
@@ -105,11 +112,13 @@ final class PromiseAsksTest {
         RelicHouse x = Checks.with(house);
         Checks.work(x, work);
         int many = 0;
-        for (int p = 0; p < due.length; p++) {
-            Checks.due("matched(" + p + ") of '" + house + "'", x.matched(p), due[p]);
-            many += due[p] == -1 ? 0 : 1;
+        for (int relic : due) {
+            many += relic == -1 ? 0 : 1;
         }
         Checks.due("match() of '" + house + "'", x.match(), many);
+        for (int p = 0; p < due.length; p++) {
+            Checks.due("matched(" + p + ") of '" + house + "'", x.matched(p), due[p]);
+        }
     }
 
     private static void match() {
@@ -191,6 +200,14 @@ final class PromiseAsksTest {
         askDue(x, "0 12;1 12;2 0;", -1, -1);
         Checks.law(x, "lapses * sister");
         askDue(x, "", 1, 2);
+        // of a sister who is sure to have lapsed, or not to, another relic tells nothing
+        RelicHouse y = Checks.with("sister 0;sister 0;relic 0 0 10;relic 0 0 10;relic 1 0 10;");
+        Checks.work(y, "give 0;give 1;give 2;day;day;");
+        askDue(y, "0 9;", 2, 1);
+        askDue(y, "0 12;", 2, 1);
+        askDue(y, "0 12;2 9;", 1, 1);
+        Checks.work(y, "back 2;");
+        askDue(y, "0 9;", 1, 1);
         Checks.noArgument("ask(2)", () -> x.ask(2));
         Checks.noArgument("ask(-1)", () -> x.ask(-1));
         Checks.due("a house without relics", new RelicHouse().ask(1), -1);
@@ -217,6 +234,16 @@ final class PromiseAsksTest {
         Checks.law(x, "lapses * 64");
         bestDue(x, 0, 1, 16, 1);
         bestDue(x, 3, 1, 60, 1);
+        Checks.law(x, "day * 3");
+        bestDue(x, 1, 6, 18, 1);
+        Checks.law(x, "30 - day * 3 + day / 5 * 90");
+        bestDue(x, 1, 4, 30, 1);
+        bestDue(x, 1, 5, 99, 1);
+        Checks.work(x, "again 9[day;];lapse 1;day;day;lapse 2;");
+        Checks.law(x, "days + lapses * 2");
+        // DAYS 6, lapsed once: 9 by no lapse, 4 and 4 by one
+        bestDue(x, 1, 1, 17, 2);
+        bestDue(x, 2, 1, 8, 1);
         Checks.law(x, "0");
         bestDue(x, 0, 6, 0, 1);
         Checks.law(x, "others");
@@ -327,6 +354,13 @@ final class PromiseAsksTest {
         Checks.work(x, "give 1;give 2;give 3;");
         Checks.due("the strongest", x.strongest(0), 2);
         Checks.due("its POWER", x.strongest(1), 20);
+        Checks.work(x, "give 0;");
+        Checks.law(x, "30 - worth");
+        Checks.due("the weaker ones of worth", x.strongest(0), 1);
+        Checks.work(x, "back 1;back 3;");
+        Checks.due("relic 0", x.strongest(0), 0);
+        Checks.due("its POWER", x.strongest(1), 20);
+        Checks.work(x, "back 0;give 1;give 3;");
         Checks.law(x, "7");
         Checks.due("of alike ones the first", x.strongest(0), 1);
         Checks.law(x, "0");
@@ -380,6 +414,8 @@ final class PromiseAsksTest {
         Checks.work(x, "lapse 2;");
         Checks.due("halved, of alike ones the first", x.eldest(0), 1);
         Checks.due("its DAYS", x.eldest(1), 2);
+        Checks.work(x, "back 1;back 2;back 3;give 0;day;give 1;");
+        Checks.due("relic 0", x.eldest(0), 0);
         Checks.noArgument("eldest(2)", () -> x.eldest(2));
         Checks.noArgument("eldest(-1)", () -> x.eldest(-1));
     }
@@ -491,6 +527,16 @@ final class PromiseAsksTest {
         Checks.due("CURED ahead of it", y.year(5, 1, 3), 1);
         Checks.due("in it", y.year(5, 96, 0), 1);
         Checks.due("then", y.year(5, 96, 3), 3);
+        Checks.law(y, "day");
+        Checks.due("by the LAW", y.year(5, 96, 2), 96);
+        Checks.work(y, "again 40[day;day;day;day;];");
+        Checks.work(y, "again 40[day;day;day;day;];");
+        Checks.work(y, "again 40[day;day;day;day;];");
+        Checks.law(y, "day - 500");
+        Checks.due("beyond DAY 500", y.year(5, 96, 2), 480 + 96 - 500);
+        RelicHouse z = Checks.with("sister 0;relic 0 0 9;pilgrim 0 9;");
+        Checks.work(z, "give 0;");
+        Checks.due("one relic and one pilgrim", z.year(5, 1, 0), 1);
     }
 
     private static void span() {
@@ -504,11 +550,11 @@ final class PromiseAsksTest {
                 for (int i = 0; i < many; i++) {
                     fewest = Math.min(fewest, x.year(seed + i, 9, 0));
                     most = Math.max(most, x.year(seed + i, 9, 0));
-                    times += x.year(seed + i, 9, 3) >> 1 & 1;
+                    times += x.year(seed + i, 9, 3) & 1;
                 }
-                Checks.due("span 0 by " + seed + ", " + many, x.span(seed, many, 9, 0, 1), fewest);
-                Checks.due("span 1 by " + seed + ", " + many, x.span(seed, many, 9, 1, 1), most);
-                Checks.due("span 2 by " + seed + ", " + many, x.span(seed, many, 9, 2, 1), times);
+                Checks.due("span 0 by " + seed + ", " + many, x.span(seed, many, 9, 0, 0), fewest);
+                Checks.due("span 1 by " + seed + ", " + many, x.span(seed, many, 9, 1, 0), most);
+                Checks.due("span 2 by " + seed + ", " + many, x.span(seed, many, 9, 2, 0), times);
             }
         }
         Checks.due("by 20 seeds some differ", x.span(5, 20, 9, 0, 0) < x.span(5, 20, 9, 1, 0), true);

@@ -190,6 +190,14 @@ final class PromiseDaysTest {
         Checks.work(x, "cure 2 0;");
         Checks.due("not the CURED one, used or not", x.relic(2, 5), 2);
         Checks.due("not KEPT", x.relic(0, 3), -1);
+        Checks.work(x, "give 1;");
+        Checks.due("tomorrow, not today", x.relic(1, 5), 0);
+        Checks.work(x, "day;");
+        Checks.due("today", x.relic(1, 5), 4);
+        Checks.work(x, "back 1;");
+        x.undo();
+        x.undo();
+        x.undo();
         Checks.law(x, "others*9+lapses*3+tempted+day*20");
         Checks.due("POWER", x.relic(2, 4), 48);
         Checks.work(x, "give 0;give 1;lapse 0;");
@@ -210,6 +218,10 @@ final class PromiseDaysTest {
             Checks.due("pilgrim(0, " + what + ")", x.pilgrim(0, what), due[what]);
         }
         Checks.due("not CURED", x.pilgrim(1, 2), -1);
+        Checks.due("nobody at first", Checks.with(HOUSE).pilgrim(0, 2), -1);
+        Checks.work(x, "give 1;");
+        Checks.due("tomorrow, not today", x.pilgrim(2, 3), 0);
+        x.undo();
         Checks.due("the used one CAN", x.pilgrim(1, 3), 4);
         Checks.noArgument("pilgrim(0, 4)", () -> x.pilgrim(0, 4));
         Checks.noArgument("pilgrim(0, -1)", () -> x.pilgrim(0, -1));
@@ -223,6 +235,9 @@ final class PromiseDaysTest {
         Checks.work(x, "give 0;give 2;");
         Checks.due("it can", x.can(2, 1), true);
         Checks.due("too weak", x.can(0, 0), false);
+        Checks.work(x, "day;");
+        Checks.due("too weak until tomorrow", x.can(0, 0), false);
+        x.undo();
         Checks.due("another ill", x.can(2, 2), false);
         Checks.work(x, "cure 2 1;");
         Checks.due("used", x.can(2, 0), false);
@@ -283,6 +298,31 @@ final class PromiseDaysTest {
         Checks.due("undo", x.undo(), 0);
         Checks.due("DAY 0", x.told(3), 0);
         Checks.due("nothing is KEPT", x.told(5), 0);
+        Checks.work(x, "give 0;");
+        Checks.work(x, "give 1;");
+        x.image();
+        x.undo();
+        x.undo();
+        Checks.work(x, "give 2;");
+        Checks.work(x, "give 3;");
+        x.restore();
+        Checks.due("the works as they were: KEPT", x.told(5), 3);
+        x.undo();
+        Checks.due("the works as they were: undone", x.told(5), 1);
+        x.undo();
+        for (int i = 0; i < 16; i++) {
+            Checks.work(x, "day;");
+        }
+        x.image();
+        x.undo();
+        x.restore();
+        Checks.due("16 works in an image", x.count(2), 16);
+        Checks.due("16 works are there", Checks.work(x, "day;"), -20);
+        Checks.due("undo them", x.undo(), 15);
+        Checks.due("DAY 15", x.told(3), 15);
+        for (int i = 0; i < 15; i++) {
+            x.undo();
+        }
         // a refused step is still told of when there is nothing to restore
         Checks.work(x, "back 0;");
         Checks.due("no image", x.restore(), -1);

@@ -151,6 +151,11 @@ final class PromiseTextsTest {
         Checks.due("nothing to undo", x.undo(), -1);
         Checks.due("no LAW", x.would(5, 2, 1, 0, 0, 0, 0, 0), 5);
         Checks.due("sets by nothing SEEN", x.lapsed(0), 1);
+        Checks.house(x, "sister 1;sister 2;relic 1 0 5;relic 1 0 5;pilgrim 0 5;vow 0 1;");
+        Checks.house(x, "sister 1;sister 2;relic 0 0 5;");
+        Checks.due("nothing of an earlier house: RELICS", x.sister(1, 2), 0);
+        Checks.due("nothing of an earlier house: VOWS", x.sister(0, 4), -1);
+        Checks.due("nothing of an earlier house: PILGRIMS", x.told(2), 0);
     }
 
     private static void value(String law, int want) {
@@ -248,7 +253,7 @@ final class PromiseTextsTest {
         // those that are closed again are not open
         value("(1)+(1)+(1)+(1)+(1)+(1)+(1)+(1)", 8);
         // as many values wait as can
-        value("1+1*least[1,1+1*least[1,1+1*least[1,1+1*least[1,1+1*least[1,1+1*least[1,1+1*1]]]]]]", 2);
+        value("1+1*most[0,".repeat(6) + "1+1*3" + "]".repeat(6), 10);
     }
 
     private static void work() {
@@ -299,6 +304,8 @@ final class PromiseTextsTest {
         workFault("day;again 1[day;]", -9, 17);
         workFault("day;];", -9, 4);
         workFault("day;days;", -9, 4);
+        workFault("day;dayz;", -9, 4);
+        workFault("day;aday;", -9, 4);
         workFault("day", -9, 3);
         workFault("day 1;", -9, 4);
         workFault("day;sister 1;", -9, 4);
