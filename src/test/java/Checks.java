@@ -8,15 +8,21 @@ final class Checks {
 
     private static int wrong;
     private static int made;
+    /** The promise and the sentence that the checks below stand for. */
+    private static String title = "";
 
     private Checks() {
+    }
+
+    static void promise(int number, String sentence) {
+        title = "Promise " + number + " (" + sentence + "): ";
     }
 
     static void due(String what, long got, long want) {
         made++;
         if (got != want) {
             wrong++;
-            System.out.println(what + " answered " + got + ", due is " + want);
+            System.out.println(title + what + " answered " + got + ", due is " + want);
         }
     }
 
@@ -37,7 +43,7 @@ final class Checks {
             got = e.toString();
         }
         wrong++;
-        System.out.println(what + " answered " + got + ", due is " + due.getSimpleName());
+        System.out.println(title + what + " answered " + got + ", due is " + due.getSimpleName());
     }
 
     static void noArgument(String what, Call call) {
