@@ -1046,9 +1046,9 @@ public final class RelicHouse {
                 case REMAIN:
                     return b == 0 ? 0 : a % b;
                 case LEAST:
-                    return Math.min(a, b);
+                    return a < b ? a : b;
                 default:
-                    return Math.max(a, b);
+                    return a > b ? a : b;
             }
         }
     }

@@ -10,6 +10,7 @@ final class EdgeAsksTest {
         told();
         toldFull();
         sister();
+        sisterLapses();
         relic();
         pilgrim();
         can();
@@ -121,6 +122,24 @@ final class EdgeAsksTest {
         Checks.work(y, "die 1;");
         Checks.due("none is KEPT any more", y.sister(1, 3), 0);
         Checks.due("hers all the same", y.sister(1, 2), 1022);
+    }
+
+    private static void sisterLapses() {
+        Checks.promise(10, "lapses by now, of each SISTER her own");
+        StringBuilder house = new StringBuilder("sister 0;".repeat(8));
+        for (int s = 0; s < 8; s++) {
+            house.append("relic ").append(s).append(" 0 30;");
+        }
+        RelicHouse x = Checks.with(house.toString());
+        for (int s = 0; s < 8; s++) {
+            Checks.work(x, "give " + s + ";again " + (s + 1) + "[lapse " + s + ";];");
+        }
+        for (int s = 0; s < 8; s++) {
+            Checks.due("lapses of " + s, x.sister(s, 1), s + 1);
+            Checks.due("POWER by them", x.relic(s, 4), 30 - 2 * s - 2);
+            Checks.due("POWER by one more", x.ahead(s, 0, 1), 30 - 2 * s - 4);
+            Checks.due("BEST by them", x.best(s, 0, 0), 30 - 2 * s - 2);
+        }
     }
 
     private static void relic() {
@@ -345,6 +364,12 @@ final class EdgeAsksTest {
         RelicHouse y = Checks.with(stairs.toString());
         giveAll(y);
         matchDue(y, 7, 6, 5, 4, 3, 2, 1, 0);
+        Checks.promise(17, "nothing of an earlier HOUSE");
+        RelicHouse z = after("sister 0;relic 0 0 9;relic 0 0 8;pilgrim 0 8;pilgrim 0 9;", "give 0;give 1;");
+        matchDue(z, 1, 0);
+        Checks.house(z, "sister 0;relic 0 0 9;relic 0 0 8;pilgrim 0 8;");
+        Checks.work(z, "give 0;give 1;");
+        matchDue(z, 0);
     }
 
     private static void lapsedDue(RelicHouse x, String seen, int sets, int first, int sure) {
@@ -446,6 +471,17 @@ final class EdgeAsksTest {
         Checks.law(y, "10+lapses*sister");
         askDue(y, "", 1, 2);
         askDue(y, "1 10;", 0, 2);
+        Checks.promise(20, "what it can today, not tomorrow");
+        Checks.law(y, "day+days/9");
+        askDue(y, "", 0, 4);
+        Checks.law(y, "1-days%2");
+        askDue(y, "", 0, 2);
+        Checks.promise(20, "of one who is sure not to have lapsed all sets are left, by any other RELIC of hers");
+        RelicHouse z = after("sister 0;sister 0;relic 0 0 10;relic 1 0 10;relic 1 0 10;", "give 0;give 1;give 2;");
+        Checks.law(z, "10+lapses*sister");
+        askDue(z, "1 10;", 0, 2);
+        askDue(z, "1 11;", 0, 2);
+        askDue(z, "0 10;1 10;", 2, 2);
         Checks.promise(20, "another what");
         Checks.noArgument("one below", () -> y.ask(-1));
         Checks.noArgument("one above", () -> y.ask(2));
@@ -526,6 +562,22 @@ final class EdgeAsksTest {
         bestDue(y, 0, 1, 24, 1);
         Checks.law(y, "days*8+lapses*2");
         bestDue(y, 0, 1, 25, 1);
+        RelicHouse w = after("sister 8;relic 0 0 10;", "give 0;day;day;day;day;");
+        Checks.law(w, "lapses*50+days");
+        // 5 without, 50 and 4 / 2 + 1 with a lapse
+        bestDue(w, 0, 1, 29, 1);
+        // behind the one 6 or 53, behind the other 54 or 99
+        bestDue(w, 0, 2, 53, 1);
+        Checks.promise(21, "the day goes by, lapsed or not");
+        Checks.law(y, "lapses*5+day*2");
+        bestDue(y, 0, 1, 21, 2);
+        bestDue(y, 0, 2, 15, 1);
+        Checks.promise(21, "of a RELIC its own DAYS, of a SISTER her own lapses");
+        RelicHouse z = after("sister 0;sister 8;relic 0 0 10;relic 1 0 10;", "give 1;again 5[day;];give 0;lapse 1;day;");
+        Checks.law(z, "days*8+lapses");
+        bestDue(z, 0, 0, 8, 1);
+        bestDue(z, 1, 0, 25, 1);
+        bestDue(z, 0, 1, 16, 1);
         Checks.promise(21, "nothing stays changed");
         Checks.due("DAYS", y.relic(0, 3), 3);
         Checks.due("lapses", y.sister(0, 1), 0);
@@ -595,6 +647,24 @@ final class EdgeAsksTest {
         Checks.due("as far as it may be", y.follows(0, 1000000), -1);
         Checks.due("without a VOW, by 0", y.follows(7, 0), 7);
         Checks.due("without a VOW, by 1", y.follows(7, 1), -1);
+        Checks.promise(24, "a VOW to oneself");
+        RelicHouse w = Checks.with("sister 0;sister 0;vow 0 1;vow 1 1;");
+        for (int n : new int[] {1, 7, 8, 9, 10, 999999, 1000000}) {
+            Checks.due("follows(0, " + n + ")", w.follows(0, n), 1);
+            Checks.due("follows(1, " + n + ")", w.follows(1, n), 1);
+        }
+        Checks.promise(24, "a RING of each length, by ways as long as may be");
+        for (int length = 1; length <= 8; length++) {
+            StringBuilder ring = new StringBuilder("sister 0;".repeat(8));
+            for (int s = 0; s < length; s++) {
+                ring.append("vow ").append(s).append(' ').append((s + 1) % length).append(';');
+            }
+            RelicHouse v = Checks.with(ring.toString());
+            for (int n = 0; n <= 24; n++) {
+                Checks.due("follows(0, " + n + ") of " + length, v.follows(0, n), n % length);
+            }
+            Checks.due("follows(0, 1000000) of " + length, v.follows(0, 1000000), 1000000 % length);
+        }
         Checks.promise(24, "into a RING, by as long a way as may be");
         RelicHouse z = Checks.with("sister 0;".repeat(8) + "vow 0 1;vow 1 2;vow 2 3;vow 3 4;vow 4 5;vow 5 6;vow 6 7;vow 7 6;");
         for (int n = 6; n <= 12; n++) {

@@ -65,6 +65,10 @@ final class EdgeHouseTest {
         RelicHouse y = Checks.with("sister 0;" + "relic 0 0 1;".repeat(9) + "relic 0 0 2;");
         giveAll(y);
         strongestDue(y, 9, 2 + y.relic(9, 3));
+        Checks.promise(27, "the first of all RELICS");
+        Checks.work(y, "back 9;back 0;day;give 0;");
+        Checks.law(y, "9-days");
+        strongestDue(y, 0, 9);
         Checks.promise(27, "another what");
         Checks.noArgument("one below", () -> x.strongest(-1));
         Checks.noArgument("one above", () -> x.strongest(2));
@@ -134,6 +138,11 @@ final class EdgeHouseTest {
         eldestDue(x, 1, 1);
         Checks.work(x, "back 1;");
         eldestDue(x, 3, 1);
+        Checks.promise(30, "the first of all RELICS");
+        Checks.work(x, "back 3;");
+        eldestDue(x, 0, 0);
+        Checks.work(x, "day;give 1;");
+        eldestDue(x, 0, 1);
         Checks.promise(30, "another what");
         Checks.noArgument("one below", () -> x.eldest(-1));
         Checks.noArgument("one above", () -> x.eldest(2));
@@ -312,6 +321,19 @@ final class EdgeHouseTest {
             }
             Checks.due("who, by " + seed, x.year(seed, 9, 3), cured);
             Checks.due("how many, by " + seed, x.year(seed, 9, 0), Integer.bitCount(cured));
+        }
+        Checks.promise(35, "one RELIC and one PILGRIM: both are DRAWN all the same");
+        RelicHouse u = after("sister 9;relic 0 0 9;pilgrim 0 9;", "give 0;");
+        Checks.due("CURED on the first day, but for a lapse", u.year(1, 1, 0) + u.year(1, 1, 1), 1);
+        for (int seed = 0; seed < 12; seed++) {
+            long s = seed;
+            int lapses = 0;
+            for (int day = 0; day < 20; day++) {
+                s = drawn(s);
+                lapses += bitsOf(s) % 16 < 9 ? 1 : 0;
+                s = drawn(drawn(s));
+            }
+            Checks.due("lapses by " + seed, u.year(seed, 20, 1), lapses);
         }
         Checks.promise(35, "how many were CURED in it, not ahead of it");
         RelicHouse y = after("sister 0;relic 0 0 9;pilgrim 0 9;", "give 0;cure 0 0;");

@@ -136,6 +136,14 @@ final class EdgeLawTest {
             lawFault(words[i] + "1", 1, words[i].length());
             lawFault(words[i] + "[1]", 1, words[i].length());
         }
+        Checks.promise(4, "worth, days, lapses, tempted, ill, others, sister, day of a RELIC");
+        RelicHouse z = Checks.with("sister 1;sister 14;relic 0 1 2;relic 1 4 30;relic 1 3 3;relic 1 3 3;");
+        Checks.work(z, "again 40[day;];give 1;again 7[day;];give 2;give 3;lapse 1;lapse 1;lapse 1;again 5[day;];");
+        int[] due = {30, 5, 3, 14, 4, 2, 1, 52};
+        for (int i = 0; i < words.length; i++) {
+            Checks.law(z, words[i]);
+            Checks.due(words[i] + " of a RELIC", z.relic(1, 4), due[i]);
+        }
         Checks.promise(4, "others: other RELICS of hers that are KEPT");
         RelicHouse x = Checks.with("sister 0;sister 0;relic 0 0 1;relic 0 0 1;relic 1 0 1;relic 0 0 1;");
         Checks.law(x, "others*10+1");

@@ -300,6 +300,9 @@ final class EdgeTextsTest {
         Checks.promise(3, "WORDS: small letters, as many as stand there");
         houseFault("sisterrelic 0 0 1;", 1, 0);
         houseFault("siste 1;", 1, 0);
+        houseFault("sistera 1;", 1, 0);
+        houseFault("sisterz 1;", 1, 0);
+        houseFault("zsister 1;", 1, 0);
         houseFault("sisters 1;", 1, 0);
         houseFault("Sister 1;", 1, 0);
         houseFault("sisteR 1;", 1, 0);
@@ -370,6 +373,23 @@ final class EdgeTextsTest {
         Checks.due("DAYS of one given anew", Checks.work(x, "give 0;"), 1);
         Checks.due("DAYS", x.relic(0, 3), 0);
         Checks.due("not used", x.can(0, 1), true);
+        Checks.promise(3, "nothing of an earlier HOUSE, nor of a faulty one");
+        RelicHouse z = new RelicHouse();
+        String large = "sister 1;".repeat(8) + "relic 0 0 9;".repeat(10) + "pilgrim 0 9;".repeat(8) + "vow 0 1;vow 1 0;";
+        for (String text : new String[] {large, large, large + "?", "sister 2;sister 3;relic 1 0 9;pilgrim 0 9;"}) {
+            Checks.house(z, text);
+        }
+        Checks.due("SISTERS", z.told(0), 2);
+        Checks.due("RELICS", z.told(1), 1);
+        Checks.due("PILGRIMS", z.told(2), 1);
+        Checks.due("RELICS of the first", z.sister(0, 2), 0);
+        Checks.due("RELICS of the second", z.sister(1, 2), 1);
+        Checks.due("no VOW of the first", z.sister(0, 4), -1);
+        Checks.due("no VOW of the second", z.sister(1, 4), -1);
+        Checks.work(z, "give 0;");
+        Checks.due("match()", z.match(), 1);
+        Checks.due("hopeless(0)", z.hopeless(0), 0);
+        Checks.due("idle()", z.idle(), 1);
         Checks.promise(3, "status is not begun anew");
         RelicHouse y = new RelicHouse();
         Checks.noElement("ring(0)", () -> y.ring(0));

@@ -6,16 +6,19 @@ import java.lang.reflect.Modifier;
 import java.nio.file.Files;
 import java.nio.file.Path;
 import java.util.Arrays;
+import java.util.NoSuchElementException;
 import java.util.Set;
 import java.util.TreeSet;
 
 /** The public face as the document has it, and those rules of LANGUAGE.md that can be seen from outside. */
 final class FaceTest {
-    private static final String FACE = "int feed 5;int house 1;int law 1;int work 1;int seen 1;int fault 0;int undo 0;"
-            + "int told 1;int sister 2;int relic 2;int pilgrim 2;int would 8;boolean can 2;int when 2;int ahead 3;"
-            + "int match 0;int matched 1;int lapsed 1;int ask 1;long best 3;long without 3;int ring 1;int follows 2;"
-            + "int tempted 3;int alms 3;int strongest 1;int bare 0;int hopeless 1;int eldest 1;int idle 0;int needs 1;"
-            + "int strength 1;int weakest 1;int year 3;int span 5;int image 0;int restore 0;int status 1;int count 1";
+    /** What is answered, the name, how many arguments, and what is thrown: by no Element, by a wrong Argument. */
+    private static final String FACE = "int feed 5 -;int house 1 A;int law 1 A;int work 1 A;int seen 1 A;int fault 0 -;"
+            + "int undo 0 -;int told 1 A;int sister 2 EA;int relic 2 EA;int pilgrim 2 EA;int would 8 A;boolean can 2 E;"
+            + "int when 2 E;int ahead 3 EA;int match 0 -;int matched 1 E;int lapsed 1 A;int ask 1 A;long best 3 EA;"
+            + "long without 3 EA;int ring 1 E;int follows 2 EA;int tempted 3 A;int alms 3 EA;int strongest 1 A;"
+            + "int bare 0 -;int hopeless 1 A;int eldest 1 A;int idle 0 -;int needs 1 A;int strength 1 E;int weakest 1 A;"
+            + "int year 3 A;int span 5 A;int image 0 -;int restore 0 -;int status 1 -;int count 1 -";
 
     private FaceTest() {
     }
@@ -35,7 +38,7 @@ final class FaceTest {
         for (Method m : RelicHouse.class.getDeclaredMethods()) {
             if (Modifier.isPublic(m.getModifiers())) {
                 names.add(m.getName());
-                got.add(m.getReturnType() + " " + m.getName() + " " + m.getParameterCount());
+                got.add(m.getReturnType() + " " + m.getName() + " " + m.getParameterCount() + " " + thrown(m));
                 for (Class<?> p : m.getParameterTypes()) {
                     Checks.due("parameters of " + m.getName() + " are int", p == int.class, true);
                 }
@@ -44,6 +47,14 @@ final class FaceTest {
         Checks.due("the face is the document's: " + got, got.equals(due), true);
         Checks.due("final", Modifier.isFinal(RelicHouse.class.getModifiers()), true);
         return names;
+    }
+
+    private static String thrown(Method m) {
+        StringBuilder b = new StringBuilder();
+        for (Class<?> e : m.getExceptionTypes()) {
+            b.append(e == NoSuchElementException.class ? "E" : e == IllegalArgumentException.class ? "A" : "?");
+        }
+        return b.length() == 0 ? "-" : b.toString();
     }
 
     private static boolean isHidden(int modifiers) {
