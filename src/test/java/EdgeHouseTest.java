@@ -108,6 +108,12 @@ final class EdgeHouseTest {
         Checks.noArgument("one below", () -> x.hopeless(-1));
         Checks.noArgument("one above", () -> x.hopeless(100));
         Checks.due("status(1)", x.status(1), 2);
+        Checks.promise(29, "in n days: on that day, whatever could be done till then");
+        Checks.law(x, "least[days, 1] * (3 - days)");
+        Checks.due("today", x.hopeless(0), 15);
+        Checks.due("in 1 day", x.hopeless(1), 12);
+        Checks.due("in 2 days", x.hopeless(2), 14);
+        Checks.due("in 3 days", x.hopeless(3), 15);
         Checks.promise(29, "that are not CURED");
         RelicHouse y = after("sister 0;relic 0 0 1;pilgrim 0 1;pilgrim 0 9;", "give 0;cure 0 0;back 0;");
         Checks.due("not the CURED one", y.hopeless(0), 2);

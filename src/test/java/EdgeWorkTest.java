@@ -24,6 +24,7 @@ final class EdgeWorkTest {
         seenLength();
         seenNumbers();
         seenFaults();
+        textsStay();
         undo();
         images();
         imagesOfWorks();
@@ -473,6 +474,35 @@ final class EdgeWorkTest {
         seenFault("5 1;;", 1, 4);
         Checks.promise(6, "blanks (32) may stand ahead of all these, and at the end");
         seenIs("  5  1  ;  6  2  ;  ", 2);
+    }
+
+    /** Only a new HOUSE and the same kind of text take the place of what a text told. */
+    private static void textsStay() {
+        Checks.promise(6, "what is SEEN stays behind WORK, a LAW and faulty texts");
+        RelicHouse x = Checks.with(HOUSE);
+        Checks.law(x, "worth+7");
+        Checks.seen(x, "0 1;2 3;");
+        Checks.due("WORK", Checks.work(x, "give 0;day;day;lapse 0;back 0;die 0;"), 6);
+        Checks.due("told(8) behind WORK", x.told(8), 2);
+        Checks.due("sets behind WORK", x.lapsed(0), 0);
+        Checks.law(x, "worth+8");
+        Checks.due("told(8) behind a LAW", x.told(8), 2);
+        Checks.due("a faulty one", Checks.seen(x, "0 0;1"), -9);
+        Checks.work(x, "?");
+        Checks.law(x, "?");
+        Checks.house(x, "?");
+        Checks.due("told(8) behind faulty texts", x.told(8), 2);
+        Checks.due("seen anew", Checks.seen(x, "0 0;"), 1);
+        Checks.due("sets by what is SEEN anew", x.lapsed(0), 1);
+        Checks.promise(4, "the LAW stays behind WORK, what is SEEN and faulty texts");
+        Checks.due("the LAW", x.would(1, 1, 1, 1, 1, 1, 1, 1), 9);
+        Checks.promise(5, "WORKS and IMAGES stay behind a LAW and what is SEEN");
+        x.image();
+        Checks.law(x, "1");
+        Checks.seen(x, "");
+        Checks.due("IMAGES", x.count(0), 1);
+        Checks.due("WORKS", x.count(2), 1);
+        Checks.due("the DAY", x.told(3), 2);
     }
 
     private static void undo() {

@@ -1,11 +1,16 @@
 import java.io.IOException;
+import java.lang.reflect.Array;
 import java.lang.reflect.Constructor;
 import java.lang.reflect.Field;
 import java.lang.reflect.Method;
 import java.lang.reflect.Modifier;
 import java.nio.file.Files;
 import java.nio.file.Path;
+import java.util.ArrayDeque;
 import java.util.Arrays;
+import java.util.Deque;
+import java.util.IdentityHashMap;
+import java.util.Map;
 import java.util.NoSuchElementException;
 import java.util.Set;
 import java.util.TreeSet;
@@ -23,11 +28,12 @@ final class FaceTest {
     private FaceTest() {
     }
 
-    public static void main(String[] args) throws IOException {
+    public static void main(String[] args) throws IOException, IllegalAccessException {
         Set<String> names = face();
         methodsAndFields(names);
         insideClasses(names);
         source();
+        room();
         Checks.end("FaceTest");
     }
 
@@ -91,6 +97,62 @@ final class FaceTest {
                 Checks.due(c.getSimpleName() + "." + m.getName() + " has a name of its own", names.contains(m.getName()), false);
                 Checks.due(m.getName() + " has seven parameters at most", m.getParameterCount() <= 7, true);
             }
+        }
+    }
+
+    /** All calls of a run share one room, so an object is small and no call makes it grow. */
+    private static void room() throws IllegalAccessException {
+        RelicHouse x = new RelicHouse();
+        long[] first = held(x);
+        Checks.due("objects and arrays: " + first[0], first[0] <= 100, true);
+        Checks.due("fields and elements: " + first[1], first[1] <= 5000, true);
+        Checks.house(x, "sister 4;sister 9;relic 0 1 10;relic 1 1 9;pilgrim 1 12;pilgrim 1 9;vow 0 1;vow 1 0;");
+        for (int i = 0; i < 20; i++) {
+            Checks.law(x, "worth+days*2");
+            Checks.work(x, "give 0;give 1;again 9[day;lapse 0;];cure 0 0;");
+            Checks.seen(x, "0 1;");
+            x.image();
+            x.match();
+            x.ask(0);
+            x.best(0, 6, 0);
+            x.span(i, 20, 96, 0, 0);
+        }
+        x.restore();
+        x.undo();
+        long[] last = held(x);
+        Checks.due("objects and arrays then", last[0], first[0]);
+        Checks.due("fields and elements then", last[1], first[1]);
+    }
+
+    /** How many objects and arrays can be come to, and how many fields and elements they have. */
+    private static long[] held(Object root) throws IllegalAccessException {
+        Map<Object, Boolean> met = new IdentityHashMap<>();
+        Deque<Object> open = new ArrayDeque<>();
+        meet(root, met, open);
+        long elements = 0;
+        while (!open.isEmpty()) {
+            Object o = open.remove();
+            if (o.getClass().isArray()) {
+                elements += Array.getLength(o);
+                for (int i = 0; i < Array.getLength(o) && !o.getClass().getComponentType().isPrimitive(); i++) {
+                    meet(Array.get(o, i), met, open);
+                }
+            } else {
+                for (Field f : o.getClass().getDeclaredFields()) {
+                    if (!Modifier.isStatic(f.getModifiers())) {
+                        elements++;
+                        f.setAccessible(true);
+                        meet(f.getType().isPrimitive() ? null : f.get(o), met, open);
+                    }
+                }
+            }
+        }
+        return new long[] {met.size(), elements};
+    }
+
+    private static void meet(Object o, Map<Object, Boolean> met, Deque<Object> open) {
+        if (o != null && met.put(o, true) == null) {
+            open.add(o);
         }
     }
 
